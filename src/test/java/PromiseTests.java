@@ -128,11 +128,11 @@ public final class PromiseTests {
         due("message", x.message(20), 3);
         due("count(4)", x.count(4), 8);
         due("count(1)", x.count(1), 1);
-        // Two feeds stand one behind the other.
-        x.feed(0x20202020, 0x20202020, 0x20202020, 0x20202020, 0x67726174 + 0);
+        // Two feeds stand one behind the other: "grat" and "nt 99", "gran" and "t 99".
+        x.feed(0x20202020, 0x20202020, 0x20202020, 0x20202020, 0x67726174);
         x.feed(0x6e742039, 0x39202020, 0x20202020, 0x20202020, 0x20202020);
         due("message", x.message(40), fault(16, 1));
-        x.feed(0x20202020, 0x20202020, 0x20202020, 0x20202020, 0x67726120 - 0x20 + 0x6e);
+        x.feed(0x20202020, 0x20202020, 0x20202020, 0x20202020, 0x6772616e);
         x.feed(0x74203939, 0x20202020, 0x20202020, 0x20202020, 0x20202020);
         due("message", x.message(40), 1);
         due("count(3)", x.count(3), 99);
