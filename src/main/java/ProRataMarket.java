@@ -830,15 +830,13 @@ public final class ProRataMarket {
         int surplus;
 
         /**
-         * Between two neighbouring PRICES of ORDERS nothing changes, so of all prices only those at and
-         * beside an ORDER's, LAST and the ends can be the one.
+         * Between two neighbouring PRICES of ORDERS nothing changes, and beyond them nothing would TRADE:
+         * of all prices only those at and beside an ORDER's and LAST can be the one.
          */
         void seek(Book book, int last) {
             price = 0;
             volume = 0;
             surplus = 0;
-            consider(book, 1, last);
-            consider(book, MAX_PRICE, last);
             consider(book, last, last);
             for (int i = 0; i < book.resting; i++) {
                 int at = book.rows[i].price;
@@ -1085,7 +1083,7 @@ public final class ProRataMarket {
             readToken();
             verb = wordIn(VERBS, true);
             if (verb == NONE) {
-                return isFault(FAULT_FORM);
+                return failBy(FAULT_FORM);
             }
             if (!readNumbers()) {
                 return false;
@@ -1095,15 +1093,16 @@ public final class ProRataMarket {
             if ((verb == VERB_BUY || verb == VERB_SELL) && token == WORD) {
                 mode = wordIn(MODES, false);
                 if (mode == NONE) {
-                    return isFault(FAULT_FORM);
+                    return failBy(FAULT_FORM);
                 }
                 readToken();
             }
             lineFollows = token == SEMICOLON;
-            return lineFollows || token == END || isFault(FAULT_FORM);
+            return lineFollows || token == END || failBy(FAULT_FORM);
         }
 
-        private boolean isFault(int kind) {
+        /** Always false: what was read is a FAULT. */
+        private boolean failBy(int kind) {
             fault = 8 * start + kind;
             return false;
         }
@@ -1134,10 +1133,10 @@ public final class ProRataMarket {
         private boolean readNumber(int i, int low, int high) {
             readToken();
             if (token != NUMBER) {
-                return isFault(FAULT_FORM);
+                return failBy(FAULT_FORM);
             }
             if (value < low || value > high) {
-                return isFault(FAULT_BOUNDS);
+                return failBy(FAULT_BOUNDS);
             }
             number[i] = value;
             return true;

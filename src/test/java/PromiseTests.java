@@ -171,6 +171,11 @@ public final class PromiseTests {
         due("no room in a CALL is one", say(y, "call;buy 1 1 5;sell 1 1 5;open"), 2);
         due("count(5)", y.count(5), 62);
 
+        // Without a word it is rest, whatever the LINE ahead of it said.
+        ProRataMarket w = new ProRataMarket();
+        due("less, then rest", say(w, "sell 1 5 10;buy 1 2 9 less;buy 1 9 10"), 3);
+        due("count(10)", w.count(10), 0);
+        due("count(9)", w.count(9), 1);
         // Modes by words: own ones meet.
         String[] modes = {"", " rest", " come", " both", " less"};
         int[] rests = {1, 1, 1, 0, 1};
@@ -189,7 +194,7 @@ public final class PromiseTests {
         ProRataMarket x = new ProRataMarket();
         Object[][] faults = {
             {"", 0, 1}, {"   ", 3, 1}, {";", 0, 1}, {"call;", 5, 1}, {"call; ", 6, 1}, {"call;;open", 5, 1},
-            {"calls", 0, 1}, {"cal", 0, 1}, {"cAll", 0, 1}, {"Call", 0, 1}, {"7", 0, 1}, {"call open", 5, 1},
+            {"calls", 0, 1}, {"callz", 0, 1}, {"zcall", 0, 1}, {"cal", 0, 1}, {"cAll", 0, 1}, {"Call", 0, 1}, {"7", 0, 1}, {"call open", 5, 1},
             {"call 1", 5, 1}, {"call1", 4, 1}, {"callX", 4, 1}, {"call\t", 4, 1}, {"call\r\n", 4, 1},
             {"rest", 0, 1}, {"buysell 1 1 1", 0, 1}, {"call;\u00e9", 5, 1}, {"call;call.", 9, 1},
             {"buy", 3, 1}, {"buy ", 4, 1}, {"buy 1", 5, 1}, {"buy 1 1", 7, 1}, {"buy 1 1 ", 8, 1},
@@ -665,7 +670,7 @@ public final class PromiseTests {
         due("rest", of(z, 2, 3), 4);
         due("rest", z.count(0), 3);
 
-        // As near to LAST from below as from above: the lesser.
+        // LAST itself, though no order rests there.
         ProRataMarket v = new ProRataMarket();
         v.order(1, SELL, 50, 1, 0);
         v.order(2, BUY, 50, 1, 0);
@@ -833,6 +838,7 @@ public final class PromiseTests {
         due("nothing is another one", of(x, 1, 3), 16);
 
         promise = "17 takeFor";
+        due("takeFor(4, 0) ahead of all else", ofFour().takeFor(4, 0), 12);
         due("takeFor(1, 0)", x.takeFor(1, 0), 1);
         // By the other promise: none less would do.
         for (int number = 1; number <= 4; number++) {
@@ -861,6 +867,8 @@ public final class PromiseTests {
         // the first, 5 to the parts.
         due("splits(2, 4, 36)", y.splits(2, 4, 36), 5 - 9);
         due("splits(2, 2, 36)", y.splits(2, 2, 36), 8 - 9);
+        due("splits(2, 2, 1)", y.splits(2, 2, 1), 0);
+        due("splits(1, 2, 1)", y.splits(1, 2, 1), 0);
         due("splits(3, 2, 36)", y.splits(3, 2, 36), 0);
         due("splits(3, 4, 36)", y.splits(3, 4, 36), 0);
         due("splits(3, 5, 36)", y.splits(3, 5, 36), -2000000);
@@ -874,6 +882,60 @@ public final class PromiseTests {
         due("splits(-1, 2, 10)", y.splits(-1, 2, 10), -2000000);
         due("nothing is another one", y.count(0), 4);
         due("nothing is another one", of(y, 1, 5), 6);
+    }
+
+    /** A side as full as can be, at one price and at sixty. */
+    private static void fullBooks() {
+        promise = "12, 16 to 19 with 60 orders at a price";
+        ProRataMarket x = new ProRataMarket();
+        x.grant(0);
+        for (int i = 0; i < 60; i++) {
+            x.order(1, BUY, 10, i < 59 ? 1000 : 9, 0);
+        }
+        due("level", x.level(BUY, 0, 1), 59009);
+        due("level", x.level(BUY, 0, 2), 60);
+        due("queue", x.queue(BUY, 10, 59), 60);
+        due("ahead", x.ahead(60, 0), 59000);
+        due("share of all", x.share(60, 59009, 0), 9);
+        // The last of 9 by 20000 of 59009: 3; in nine of 1: nothing, as no more than the first is left over.
+        due("share", x.share(60, 20000, 2), 3);
+        due("splits", x.splits(60, 9, 20000), -3);
+        due("splits of all", x.splits(60, 9, 59009), 0);
+        due("splits of all", x.splits(1, 9, 59009), 0);
+        due("takeFor all", x.takeFor(60, 1), 59009);
+        due("takeFor", x.takeFor(60, 0), 13114);
+        due("takeFor", x.takeFor(1, 0), 1);
+        due("would", x.would(2, SELL, 10, 1000, 0, 0), 1000);
+
+        promise = "4, 12, 19 with 60 prices";
+        ProRataMarket y = new ProRataMarket();
+        for (int i = 0; i < 60; i++) {
+            y.order(1, SELL, 160 - i, 1, 0);
+        }
+        due("level", y.level(SELL, NONE, 0), 60);
+        due("level", y.level(SELL, 59, 0), 160);
+        due("level", y.level(SELL, 60, 0), NONE);
+        due("would", y.would(2, BUY, 160, 62, 0, 0), 60);
+        due("would", y.would(2, BUY, 160, 62, 0, 1), 2);
+        due("would", y.would(2, BUY, 160, 62, 0, 2), 160);
+        due("worth", y.worth(2, BUY, 160, 62, 0), 60 * 261 / 2);
+        due("order", y.order(2, BUY, 160, 62, 0), 61);
+        due("of(61, 3)", of(y, 61, 3), 2);
+        due("count(0)", y.count(0), 1);
+
+        promise = "10 open with 59 prices";
+        ProRataMarket z = new ProRataMarket();
+        z.call();
+        for (int i = 0; i < 59; i++) {
+            z.order(1, SELL, 100 + i, 1, 0);
+        }
+        z.order(2, BUY, 200, 59, 0);
+        due("open", z.open(), 59);
+        due("LAST", z.count(2), 158);
+        due("count(0)", z.count(0), 0);
+        due("count(7)", z.count(7), 60);
+        dueTrade(z, 59, 60, 0, 158, 59, 3);
+        dueTrade(z, 0, 59, 0, 158, 1, 3);
     }
 
     private static void wouldAndWorth() {
@@ -1034,6 +1096,7 @@ public final class PromiseTests {
         callAndOpen();
         theBook();
         whatWouldBe();
+        fullBooks();
         wouldAndWorth();
         trades();
         System.out.println(looked + " answers looked at, " + wrong + " not as due");
