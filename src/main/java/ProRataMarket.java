@@ -227,7 +227,7 @@ public final class ProRataMarket {
     }
 
     public int level(int side, int k, int what) {
-        if (!isSide(side)) {
+        if (!isSide(side) || what < 0 || what > 2) {
             return NONE;
         }
         if (k == NONE) {
@@ -242,10 +242,8 @@ public final class ProRataMarket {
                 return price;
             case 1:
                 return floor.book.sizesAt(side, price);
-            case 2:
-                return floor.book.ordersAt(side, price);
             default:
-                return NONE;
+                return floor.book.ordersAt(side, price);
         }
     }
 

@@ -678,7 +678,9 @@ public final class ModelTests {
     private void lookAtBook() {
         for (int side = 0; side < 2; side++) {
             List<Integer> prices = model.prices(side);
-            due("level", real.level(side, NONE, 0), prices.size());
+            for (int what = -1; what < 4; what++) {
+                due("level NONE", real.level(side, NONE, what), what < 0 || what > 2 ? NONE : prices.size());
+            }
             for (int k = 0; k <= prices.size(); k++) {
                 boolean none = k == prices.size();
                 int price = none ? base : prices.get(k);
@@ -686,6 +688,7 @@ public final class ModelTests {
                 due("level 0", real.level(side, k, 0), none ? NONE : price);
                 due("level 1", real.level(side, k, 1), none ? NONE : Model.sum(there));
                 due("level 2", real.level(side, k, 2), none ? NONE : there.size());
+                due("level 3", real.level(side, k, 3), NONE);
                 for (int i = 0; i <= there.size(); i++) {
                     due("queue", real.queue(side, price, i), i == there.size() ? NONE : there.get(i).number);
                 }
@@ -780,8 +783,8 @@ public final class ModelTests {
         }
         due("worth" + call + ")", real.worth(trader, side, price, size, mode), trial.worth);
         int[] clear = model.phase == 0 ? new int[3] : model.clearing();
-        for (int what = 0; what < 3; what++) {
-            due("clears(" + what + ")", real.clears(what), clear[what]);
+        for (int what = -1; what < 4; what++) {
+            due("clears(" + what + ")", real.clears(what), what < 0 || what > 2 ? NONE : clear[what]);
         }
     }
 

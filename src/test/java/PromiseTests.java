@@ -89,8 +89,10 @@ public final class PromiseTests {
             due("count(" + what + ")", x.count(what), counts[what]);
         }
         for (int side = 0; side < 2; side++) {
-            due("level", x.level(side, NONE, 0), 0);
-            due("level", x.level(side, 0, 0), NONE);
+            for (int what = -2; what < 5; what++) {
+                due("level(" + side + ", NONE, " + what + ")", x.level(side, NONE, what), what < 0 || what > 2 ? NONE : 0);
+                due("level(" + side + ", 0, " + what + ")", x.level(side, 0, what), NONE);
+            }
             due("top", x.top(side), NONE);
         }
         for (int trader = 0; trader < 10; trader++) {
@@ -744,8 +746,17 @@ public final class PromiseTests {
         }
 
         promise = "12 level";
-        due("how many", x.level(BUY, NONE, 0), 3);
-        due("how many", x.level(SELL, NONE, 2), 2);
+        for (int what = 0; what < 3; what++) {
+            due("how many, what " + what, x.level(BUY, NONE, what), 3);
+            due("how many, what " + what, x.level(SELL, NONE, what), 2);
+        }
+        for (int what : new int[] {LOW, -2, -1, 3, 4, HIGH}) {
+            for (int side = 0; side < 2; side++) {
+                for (int k = -1; k < 4; k++) {
+                    due("level(" + side + ", " + k + ", " + what + ")", x.level(side, k, what), NONE);
+                }
+            }
+        }
         int[][] buys = {{12, 8, 2}, {11, 1, 1}, {10, 12, 2}};
         int[][] sells = {{13, 9, 1}, {15, 8, 1}};
         for (int what = 0; what < 3; what++) {
@@ -761,10 +772,12 @@ public final class PromiseTests {
         due("none such", x.level(SELL, HIGH, 0), NONE);
         due("others", x.level(BUY, -2, 0), NONE);
         due("others", x.level(BUY, LOW, 0), NONE);
-        due("others", x.level(BUY, 0, 3), NONE);
-        due("others", x.level(BUY, 0, -1), NONE);
-        due("others", x.level(2, 0, 0), NONE);
-        due("others", x.level(-1, NONE, 0), NONE);
+        for (int side : new int[] {LOW, -1, 2, 3, HIGH}) {
+            for (int what = -1; what < 4; what++) {
+                due("level(" + side + ", 0, " + what + ")", x.level(side, 0, what), NONE);
+                due("level(" + side + ", NONE, " + what + ")", x.level(side, NONE, what), NONE);
+            }
+        }
 
         promise = "13 queue";
         due("queue", x.queue(BUY, 10, 0), 1);
@@ -1017,6 +1030,10 @@ public final class PromiseTests {
         due("nothing is another one", z.count(0) + z.count(1) + z.count(2) + z.count(7), 4);
         z.open();
         due("while TRADING", z.clears(1), 0);
+        for (int what : new int[] {LOW, -1, 3, HIGH}) {
+            due("others while TRADING", z.clears(what), NONE);
+            due("others on a new object", new ProRataMarket().clears(what), NONE);
+        }
     }
 
     private static void trades() {
